@@ -715,6 +715,7 @@ public final class PromisesTest {
         ratio("both sin", x.odds(0, 0, 2, 0), x.odds(0, 0, 2, 1), 1, 16);
         ratio("nine rest", x.odds(1, 0, 0, 0), x.odds(1, 0, 0, 1), 794280046581L, 1000000000000000000L);
         ratio("nine wish", x.odds(1, 9, 0, 0), x.odds(1, 9, 0, 1), 19683, 1000000000);
+        ratio("nine sin", x.odds(1, 0, 9, 0), x.odds(1, 0, 9, 1), 1628413597910449L, 1000000000000000000L);
         ratio("it wishes always", x.odds(2, 1, 0, 0), x.odds(2, 1, 0, 1), 1, 1);
         ratio("it never sins", x.odds(2, 0, 1, 0), x.odds(2, 0, 1, 1), 0, 1);
         ratio("it never wishes", x.odds(3, 1, 0, 0), x.odds(3, 1, 0, 1), 0, 1);
@@ -864,6 +865,18 @@ public final class PromisesTest {
         bounded("two that only rest", y, 2, NONE, NONE, 0, 0);
         y.change(0, 4, 1);
         bounded("two that sin or rest", y, -1, 1, 1, 1, 1);
+        KneelingStones w = made();
+        w.parish(1, 2, 2, 10, 5);
+        bounded("two that only wish", w, 4, 0, 0, 0, 0);
+        bounded("two that only wish", w, 1, NONE, NONE, 0, 0);
+        bounded("two that only wish", w, 2, NONE, NONE, 0, 0);
+        w.change(0, 3, 1);
+        bounded("two that seldom wish", w, 4, 0, 0, 0, 0);
+        bounded("two that seldom wish", w, 1, 1, 1, 1, 1);
+        w.change(0, 3, 9);
+        w.change(0, 4, 9);
+        bounded("two that seldom rest", w, 0, 0, 0, 0, 0);
+        bounded("two that seldom rest", w, -1, 1, 1, 1, 1);
         KneelingStones z = made();
         z.parish(3, 0, 9, 5, 5);
         z.parish(1, 2, 9, 0, 0);
@@ -1053,9 +1066,12 @@ public final class PromisesTest {
         int pebbles = x.count(2);
         due.is("image", x.image(), pebbles);
         x.weeks(0, 30);
-        x.lay(5, 50);
-        x.take(1, 50);
+        x.take(1, 60);
+        x.lay(1, 60);
+        x.lay(1, 3);
         due.is("restore", x.restore(), pebbles);
+        due.is("the marks are of the image", x.mark(1, 50), 0);
+        due.is("spilt ones are of the image", x.count(8), 2);
         due.is("all is as it was", x.digest(), was);
         x.weeks(0, 1);
         due.is("restore once more", x.restore(), pebbles);
@@ -1122,6 +1138,29 @@ public final class PromisesTest {
         for (long number : numbers) h = 31 * h + number;
         due.is("digest of a little", x.digest(), h);
         due.is("digest changes nothing", x.digest(), h);
+        x.parish(3, 5, 9, 4, 5);
+        x.parish(0, 0, 3, 1, 7);
+        x.change(0, 4, 3);
+        x.lay(6, 50);
+        x.weeks(1, 30);
+        due.is("digest of more", x.digest(), digestByCalls(x, "s9"));
+    }
+
+    private static long digestByCalls(KneelingStones x, String letters) {
+        long h = 563;
+        for (int c = 0; c < 7; c++) {
+            h = 31 * h + x.height(c);
+            for (int deep = 0; deep < x.height(c); deep++) h = 31 * h + x.mark(c, deep);
+        }
+        for (int i = 0; i < x.count(0); i++) for (int what = 0; what < 6; what++) h = 31 * h + x.about(i, what);
+        for (int i = 0; i < x.count(1); i++) {
+            for (int what = 0; what < 3; what++) h = 31 * h + x.customTold(i, what);
+            for (int c = 0; c < 7; c++) h = 31 * h + x.would(i, c, 2);
+        }
+        for (int what = 0; what < 4; what++) h = 31 * h + x.bounds(1, what);
+        for (int i = 0; i < letters.length(); i++) h = 31 * h + letters.charAt(i);
+        for (int what = 0; what < 10; what++) h = 31 * h + x.count(what);
+        return h;
     }
 
     /** What digest() tells of a new object ahead of its letters. */
