@@ -25,16 +25,15 @@ public final class RoomTest {
 
     private static void callsMakeNothing() {
         com.sun.management.ThreadMXBean threads = (com.sun.management.ThreadMXBean) ManagementFactory.getThreadMXBean();
-        long me = Thread.currentThread().getId();
         KneelingStones x = full();
         everyCall(x, 1);
-        long before = threads.getThreadAllocatedBytes(me);
+        long before = threads.getCurrentThreadAllocatedBytes();
         long sum = everyCall(x, 100);
-        long made = threads.getThreadAllocatedBytes(me) - before;
+        long made = threads.getCurrentThreadAllocatedBytes() - before;
         due.holds("2500 calls make nothing, but made " + made + " bytes (" + sum + ")", made < 20000);
-        before = threads.getThreadAllocatedBytes(me);
+        before = threads.getCurrentThreadAllocatedBytes();
         x = full();
-        made = threads.getThreadAllocatedBytes(me) - before;
+        made = threads.getCurrentThreadAllocatedBytes() - before;
         due.holds("an object is small, but has " + made + " bytes", made < 20000);
     }
 
