@@ -1,5 +1,6 @@
 import java.util.ArrayList;
 import java.util.List;
+import java.util.function.Consumer;
 
 /** Promises 29 to 32 and the refusals: each boundary that a sentence names, from both sides. */
 public final class EdgesOfAllTest {
@@ -186,6 +187,91 @@ public final class EdgesOfAllTest {
             refuseAll(x, wrong);
             due.is("digest() behind refusals of " + wrong, x.digest(), was);
         }
+    }
+
+    // ---- what each call leaves as it is
+
+    /** A moor with something of all, an image of an earlier week, and a page that is a custom. */
+    private static KneelingStones various() {
+        KneelingStones x = Moors.by("w5sm", "wls2f2");
+        x.parish(0, 0, 3, 5, 5);
+        x.parish(2, 6, 2, 3, 9);
+        Moors.heap(x, 3, 14, 15, 9, 26, 5, 58);
+        x.lay(6, 7);
+        x.weeks(1, 2);
+        x.image();
+        x.weeks(0, 5);
+        x.take(1, 4);
+        Due.write(x, "w1spf9");
+        return x;
+    }
+
+    /** In the order of count(): all of the parishes, of the customs, of the cairns, then what count() tells. */
+    private static long[] parts(KneelingStones x) {
+        long[] parts = {7, 7, 7, x.count(3), x.count(4), x.count(5), x.count(6), x.count(7), x.count(8), x.count(9)};
+        for (int i = 0; i < 6; i++) for (int what = 0; what <= 5; what++) parts[0] = 31 * parts[0] + x.about(i, what);
+        for (int i = 0; i < 4; i++) for (int what = 0; what <= 2; what++) parts[1] = 31 * parts[1] + x.customTold(i, what);
+        for (int i = 0; i < 7; i++) for (int deep = 0; deep < 60; deep++) parts[2] = 31 * parts[2] + x.mark(i, deep);
+        return parts;
+    }
+
+    /** The parts that a call changes, and no other; of the image, what restore() brings back behind it. */
+    private static void changes(String call, String changed, boolean image, Consumer<KneelingStones> run) {
+        KneelingStones x = various();
+        long[] was = parts(x);
+        run.accept(x);
+        long[] then = parts(x);
+        for (int i = 0; i < was.length; i++) {
+            boolean may = changed.indexOf('0' + i) >= 0;
+            due.is(call + " changes part " + i, was[i] == then[i] ? 0 : 1, may ? 1 : 0);
+        }
+        KneelingStones y = various();
+        y.restore();
+        long[] kept = parts(y);
+        x.restore();
+        long[] back = parts(x);
+        boolean same = true;
+        for (int i = 2; i <= 8; i++) same = same && kept[i] == back[i];
+        due.is(call + " changes the image", same ? 0 : 1, image ? 1 : 0);
+    }
+
+    private static void callsChangeWhatTheyTellAndNoMore() {
+        changes("letters", "9", false, x -> x.letters('x'));
+        changes("letters of none", "", false, x -> x.letters(0));
+        changes("blank", "9", false, x -> x.blank());
+        changes("custom", "19", false, x -> x.custom());
+        changes("parish", "0", false, x -> x.parish(1, 4, 1, 0, 10));
+        changes("change", "0", false, x -> x.change(1, 2, 9));
+        changes("change to what it is", "", false, x -> x.change(1, 2, 2));
+        changes("lay", "26", false, x -> x.lay(0, 4));
+        changes("take", "27", false, x -> x.take(2, 4));
+        changes("seed", "4", false, x -> x.seed(99));
+        changes("weeks", "2345678", false, x -> x.weeks(0, 60));
+        changes("image", "", true, x -> x.image());
+        changes("restore", "234567", false, x -> x.restore());
+    }
+
+    private static void callsThatTellChangeNothing() {
+        changes("fault", "", false, x -> x.fault());
+        changes("customTold", "", false, x -> x.customTold(0, 0));
+        changes("as", "", false, x -> x.as(0, 0));
+        changes("about", "", false, x -> x.about(0, 0));
+        changes("height", "", false, x -> x.height(0));
+        changes("mark", "", false, x -> x.mark(0, 0));
+        changes("dated", "", false, x -> x.dated(0, 0));
+        changes("would", "", false, x -> x.would(1, 0, 60));
+        changes("order", "", false, x -> x.order(0));
+        changes("odds", "", false, x -> x.odds(0, 0, 0, 0));
+        changes("chance", "", false, x -> x.chance(0, 0, 0));
+        changes("sinned", "", false, x -> x.sinned(0, 0, 0));
+        changes("bounds", "", false, x -> x.bounds(0, 2));
+        changes("shows", "", false, x -> x.shows(0, 0, 60));
+        changes("gone", "", false, x -> x.gone(1, 0));
+        changes("saved", "", false, x -> x.saved(1, 0, 60));
+        changes("unlike", "", false, x -> x.unlike(0, 1, 60));
+        changes("lie", "", false, x -> x.lie(0));
+        changes("count", "", false, x -> x.count(2));
+        changes("digest", "", false, x -> x.digest());
     }
 
     // ---- 31 count

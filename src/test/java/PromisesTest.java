@@ -1,3 +1,8 @@
+import java.lang.reflect.Method;
+import java.lang.reflect.Modifier;
+import java.util.Set;
+import java.util.TreeSet;
+
 /** For each promise of the document its ordinary answers, its edges and its refusals, worked out by hand. */
 public final class PromisesTest {
     private static final int NONE = -1, UNKNOWN = -101, OUTSIDE = -102, STATE = -103, FULL = -104;
@@ -5,44 +10,17 @@ public final class PromisesTest {
     private static final Due due = new Due();
 
     public static void main(String[] args) {
-        newObject();
-        letters();
-        blank();
-        fault();
-        custom();
-        customTold();
-        parish();
-        as();
-        about();
-        change();
-        lay();
-        take();
-        height();
-        mark();
-        dated();
-        seed();
-        weeks();
-        weekByRules();
-        weekOfSlyAndBoys();
-        weekByDraws();
-        weekOfFloods();
-        would();
-        order();
-        odds();
-        chance();
-        sinned();
-        bounds();
-        boundsOfKinds();
-        shows();
-        gone();
-        saved();
-        unlike();
-        lie();
-        image();
-        restore();
-        count();
-        digest();
+        due.runEach(PromisesTest.class);
         due.end("PromisesTest");
+    }
+
+    /** The test of a call bears its name; that of promise 1 is newObject(). */
+    private static void eachCallHasATest() {
+        Set<String> tests = new TreeSet<>();
+        for (Method m : PromisesTest.class.getDeclaredMethods()) tests.add(m.getName());
+        for (Method m : KneelingStones.class.getDeclaredMethods()) {
+            if (Modifier.isPublic(m.getModifiers())) due.holds("a test of " + m.getName(), tests.contains(m.getName()));
+        }
     }
 
     private static KneelingStones made() {
@@ -463,7 +441,6 @@ public final class PromisesTest {
             due.is("weeks " + wrong, x.weeks(0, wrong), OUTSIDE);
         }
         due.is("WEEK behind refusals", x.count(3), 64);
-        lastWeeks();
     }
 
     private static void lastWeeks() {
@@ -520,7 +497,6 @@ public final class PromisesTest {
         due.is("LAST by m of a sin", x.count(5), 4);
         due.is("taken by sins", x.count(7), 8);
         due.is("laid by wishes", x.count(6), 44 + 36);
-        sinOnEmpty();
     }
 
     private static void sinOnEmpty() {
@@ -560,8 +536,6 @@ public final class PromisesTest {
         heights("the sly spill one", x, 0, 0, 0, 0, 60, 0, 0);
         due.is("a moved one is spilt", x.count(8), 1);
         due.is("a spilt one is not taken", x.count(7), 0);
-        slyOfItsOwn();
-        boys();
     }
 
     private static void slyOfItsOwn() {
@@ -615,7 +589,6 @@ public final class PromisesTest {
         y.parish(0, 0, 1, 4, 6);
         y.weeks(0, 2);
         heights("two parishes in order", y, 0, 0, 3, 0, 0, 6, 0);
-        always();
     }
 
     private static void always() {
@@ -826,7 +799,6 @@ public final class PromisesTest {
         bounded("two and two", x, -3, 3, 3, 3, 3);
         bounded("two and two", x, 4, 0, 0, 0, 0);
         bounded("two and two", x, 2, 0, 1, 0, 3);
-        allOfOneMind();
     }
 
     private static void allOfOneMind() {
@@ -968,7 +940,6 @@ public final class PromisesTest {
         due.is("saved from an empty one, for 59", x.saved(0, 0, 59), 60);
         x.change(0, 3, 10);
         due.is("saved from the first week on", x.saved(0, 4, 60), 0);
-        byMost();
     }
 
     /** Too many laid on it make it the one with most, from which is taken. */
